@@ -9,6 +9,7 @@ public final class TicketsTest {
         relatedNodesShareATicket();
         ticketsMerge();
         ticketsMergeInTurn();
+        nodesAtBothEndsMoveToo();
         needsDoNotChangeTickets();
         closedTicketsStayClosed();
         wrongNodesAreRefused();
@@ -94,6 +95,25 @@ public final class TicketsTest {
         }
         dueTicket(x, 1, Alarmgrove.CLOSED, 0, Alarmgrove.NONE);
         dueTicket(x, 2, Alarmgrove.MERGED, 0, 1);
+    }
+
+    private static void nodesAtBothEndsMoveToo() {
+        Alarmgrove x = new Alarmgrove();
+        x.need(0, 5);
+        x.need(13, 5);
+        x.need(7, 5);
+        x.need(0, 6);
+        x.raise(7);
+        x.raise(0);
+        x.raise(13);
+        CHECK.due("raise(6) joins 0", x.raise(6), 2);
+        CHECK.due("raise(5) unites the tickets of 0, 7 and 13", x.raise(5), 1);
+        for (int node : new int[] {0, 5, 6, 7, 13}) {
+            CHECK.due("ticketOf(" + node + ") then", x.ticketOf(node), 1);
+        }
+        dueTicket(x, 1, Alarmgrove.OPEN, 5, Alarmgrove.NONE);
+        dueTicket(x, 2, Alarmgrove.MERGED, 0, 1);
+        dueTicket(x, 3, Alarmgrove.MERGED, 0, 1);
     }
 
     private static void needsDoNotChangeTickets() {
