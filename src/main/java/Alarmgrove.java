@@ -430,13 +430,15 @@ public final class Alarmgrove {
     /** The tickets. Each new one comes with an event, so there are never more than events. */
     private static final class Tickets {
         private final int[] numbers = new int[NODES];
-        private final int[] sizes = new int[MOST_EVENTS + 1];
         private final int[] targets = new int[MOST_EVENTS + 1];
         private int newest = 0;
 
         Tickets() {
             for (int node = 0; node < NODES; node++) {
                 numbers[node] = NONE;
+            }
+            for (int number = 0; number <= MOST_EVENTS; number++) {
+                targets[number] = NONE;
             }
         }
 
@@ -451,11 +453,20 @@ public final class Alarmgrove {
             if (targets[number] != NONE) {
                 return MERGED;
             }
-            return sizes[number] > 0 ? OPEN : CLOSED;
+            return sizeOf(number) > 0 ? OPEN : CLOSED;
         }
 
         int sizeOf(int number) {
-            return isUsed(number) ? sizes[number] : 0;
+            if (!isUsed(number)) {
+                return 0;
+            }
+            int size = 0;
+            for (int node = 0; node < NODES; node++) {
+                if (numbers[node] == number) {
+                    size++;
+                }
+            }
+            return size;
         }
 
         int targetOf(int number) {
@@ -474,27 +485,23 @@ public final class Alarmgrove {
 
         /** Puts a node into the one ticket that the related nodes have then. */
         int join(int node, int related) {
-            int number = related == 0 ? openNew() : unite(related);
-            numbers[node] = number;
-            sizes[number]++;
-            return number;
+            if (related == 0) {
+                newest++;
+                numbers[node] = newest;
+            } else {
+                numbers[node] = unite(related);
+            }
+            return numbers[node];
         }
 
         int leave(int node) {
             int number = numbers[node];
             numbers[node] = NONE;
-            sizes[number]--;
-            return sizes[number];
+            return sizeOf(number);
         }
 
         private boolean isUsed(int number) {
-            return number >= 1 && number <= newest;
-        }
-
-        private int openNew() {
-            newest++;
-            targets[newest] = NONE;
-            return newest;
+            return number >= 1 && number <= newest && number < targets.length;
         }
 
         private int unite(int related) {
@@ -518,9 +525,9 @@ public final class Alarmgrove {
                     numbers[node] = target;
                 }
             }
-            sizes[target] += sizes[number];
-            sizes[number] = 0;
-            targets[number] = target;
+            if (isUsed(number)) {
+                targets[number] = target;
+            }
         }
     }
 

@@ -3,7 +3,6 @@ public final class AlarmsTest {
     private static final Class<IndexOutOfBoundsException> NOT_THERE = IndexOutOfBoundsException.class;
     private static final Class<IllegalArgumentException> OUT_OF_RANGE = IllegalArgumentException.class;
     private static final Class<IllegalStateException> NOT_NOW = IllegalStateException.class;
-    private static final int[] WRONG_NODES = {-1, 14, Integer.MIN_VALUE, Integer.MAX_VALUE};
 
     private static final Check CHECK = new Check();
 
@@ -11,13 +10,11 @@ public final class AlarmsTest {
         tickLetsTimeGoOn();
         raiseAndClear();
         raiseAndClearRefuse();
-        threeHundredEventsAreAll();
         stateGoesByRank();
         nodesThatAreCounts();
         flappingEndsAfterTenTicks();
         raisesCountsBack();
         eventsAreKept();
-        wrongNodesAreRefused();
         CHECK.end("AlarmsTest");
     }
 
@@ -55,41 +52,6 @@ public final class AlarmsTest {
         CHECK.due("ticketState(2) after refused calls", x.ticketState(2), Alarmgrove.UNUSED);
         x.clear(5);
         CHECK.dueThrow("clear(5) again", NOT_NOW, () -> x.clear(5));
-    }
-
-    private static void threeHundredEventsAreAll() {
-        Alarmgrove x = new Alarmgrove();
-        for (int round = 1; round < 150; round++) {
-            x.raise(7);
-            x.clear(7);
-        }
-        CHECK.due("raise(7) as event 299", x.raise(7), 150);
-        CHECK.due("raise(6) as event 300", x.raise(6), 151);
-        CHECK.due("events()", x.events(), 300);
-        CHECK.dueThrow("raise(5) beyond 300", NOT_NOW, () -> x.raise(5));
-        CHECK.dueThrow("clear(7) beyond 300", NOT_NOW, () -> x.clear(7));
-        CHECK.dueThrow("raise(14) beyond 300, the first named", NOT_THERE, () -> x.raise(14));
-        CHECK.dueThrow("clear(-1) beyond 300, the first named", NOT_THERE, () -> x.clear(-1));
-        CHECK.due("events() then", x.events(), 300);
-        CHECK.due("state(5) then", x.state(5), Alarmgrove.QUIET);
-        CHECK.due("ticketOf(7) then", x.ticketOf(7), 150);
-        CHECK.due("eventNode(299)", x.eventNode(299), 6);
-        CHECK.dueThrow("eventNode(300)", NOT_THERE, () -> x.eventNode(300));
-        CHECK.due("raises(7, 1) then", x.raises(7, 1), 150);
-        ticketsMayBeAsManyAsEvents();
-    }
-
-    private static void ticketsMayBeAsManyAsEvents() {
-        Alarmgrove x = new Alarmgrove();
-        for (int node = 0; node < 13; node++) {
-            x.raise(node);
-        }
-        for (int round = 0; round < 143; round++) {
-            x.raise(13);
-            x.clear(13);
-        }
-        CHECK.due("raise(13) as event 300", x.raise(13), 157);
-        CHECK.due("openTickets() of 14 nodes", x.openTickets(), 14);
     }
 
     private static void stateGoesByRank() {
@@ -204,16 +166,6 @@ public final class AlarmsTest {
             CHECK.dueThrow("eventNode(" + wrong + ")", NOT_THERE, () -> x.eventNode(wrong));
             CHECK.dueThrow("eventTime(" + wrong + ")", NOT_THERE, () -> x.eventTime(wrong));
             CHECK.dueThrow("eventLength(" + wrong + ")", NOT_THERE, () -> x.eventLength(wrong));
-        }
-    }
-
-    private static void wrongNodesAreRefused() {
-        Alarmgrove x = new Alarmgrove();
-        for (int wrong : WRONG_NODES) {
-            CHECK.dueThrow("raise(wrong)", NOT_THERE, () -> x.raise(wrong));
-            CHECK.dueThrow("clear(wrong)", NOT_THERE, () -> x.clear(wrong));
-            CHECK.dueThrow("state(wrong)", NOT_THERE, () -> x.state(wrong));
-            CHECK.dueThrow("raises(wrong, 5)", NOT_THERE, () -> x.raises(wrong, 5));
         }
     }
 }

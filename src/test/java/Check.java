@@ -1,11 +1,32 @@
+import java.util.Collections;
+import java.util.Map;
+import java.util.TreeMap;
+
 /** Counts the answers of one test class, prints the wrong ones and ends the run. */
 final class Check {
     interface Call {
         long answer();
     }
 
+    private final Map<String, Integer> answersUnder = new TreeMap<>();
+    private String sentence = "";
     private int right = 0;
     private int wrong = 0;
+
+    /** The sentence of the document to which the answers from here on are due; promise 0 is what stands ahead of 1. */
+    void under(int promise, String words) {
+        sentence = "Promise " + promise + ": " + words;
+        answersUnder.putIfAbsent(sentence, 0);
+    }
+
+    void underNone() {
+        sentence = "";
+    }
+
+    /** How many answers were looked at under each sentence. */
+    Map<String, Integer> answersUnder() {
+        return Collections.unmodifiableMap(answersUnder);
+    }
 
     void due(String what, long got, long want) {
         count(got == want, what + " answered " + got + ", due is " + want);
@@ -44,11 +65,12 @@ final class Check {
     }
 
     private void count(boolean isRight, String complaint) {
+        answersUnder.computeIfPresent(sentence, (words, answers) -> answers + 1);
         if (isRight) {
             right++;
         } else {
             wrong++;
-            System.out.println(complaint);
+            System.out.println(sentence.isEmpty() ? complaint : "[" + sentence + "] " + complaint);
         }
     }
 }

@@ -1,8 +1,6 @@
 /** Promises 1 to 6: a new object, need, release, needs, dependsOn, height. */
 public final class NeedsTest {
-    private static final Class<IndexOutOfBoundsException> NO_NODE = IndexOutOfBoundsException.class;
     private static final Class<IllegalArgumentException> NOT_SO = IllegalArgumentException.class;
-    private static final int[] WRONG_NODES = {-1, 14, Integer.MIN_VALUE, Integer.MAX_VALUE, 32};
 
     private static final Check CHECK = new Check();
 
@@ -14,7 +12,6 @@ public final class NeedsTest {
         needsIsDirectOnly();
         dependsOnFollowsNeeds();
         heightIsTheLongestWay();
-        wrongNodesAreRefused();
         CHECK.end("NeedsTest");
     }
 
@@ -135,21 +132,5 @@ public final class NeedsTest {
         CHECK.due("height(9) of ways of unlike length", y.height(9), 4);
         CHECK.due("height(4) of ways of unlike length", y.height(4), 3);
         CHECK.due("height(0) below", y.height(0), 0);
-    }
-
-    private static void wrongNodesAreRefused() {
-        Alarmgrove x = new Alarmgrove();
-        for (int wrong : WRONG_NODES) {
-            CHECK.dueThrow("need(wrong, 3)", NO_NODE, () -> Check.asLong(x.need(wrong, 3)));
-            CHECK.dueThrow("need(3, wrong)", NO_NODE, () -> Check.asLong(x.need(3, wrong)));
-            CHECK.dueThrow("need(wrong, wrong), the first named", NO_NODE, () -> Check.asLong(x.need(wrong, wrong)));
-            CHECK.dueThrow("release(wrong, 3)", NO_NODE, () -> Check.asLong(x.release(wrong, 3)));
-            CHECK.dueThrow("release(3, wrong)", NO_NODE, () -> Check.asLong(x.release(3, wrong)));
-            CHECK.dueThrow("needs(wrong, 3)", NO_NODE, () -> Check.asLong(x.needs(wrong, 3)));
-            CHECK.dueThrow("needs(3, wrong)", NO_NODE, () -> Check.asLong(x.needs(3, wrong)));
-            CHECK.dueThrow("dependsOn(wrong, 3)", NO_NODE, () -> Check.asLong(x.dependsOn(wrong, 3)));
-            CHECK.dueThrow("dependsOn(3, wrong)", NO_NODE, () -> Check.asLong(x.dependsOn(3, wrong)));
-            CHECK.dueThrow("height(wrong)", NO_NODE, () -> x.height(wrong));
-        }
     }
 }

@@ -1,8 +1,8 @@
 /** Promises 19 to 23, and the tickets that raise and clear tell (9, 10). */
 public final class TicketsTest {
-    private static final Class<IndexOutOfBoundsException> NO_NODE = IndexOutOfBoundsException.class;
 
     private static final Check CHECK = new Check();
+    private static final Expect EXPECT = new Expect(CHECK);
 
     public static void main(String[] args) {
         numbersWithoutTicket();
@@ -12,23 +12,16 @@ public final class TicketsTest {
         nodesAtBothEndsMoveToo();
         needsDoNotChangeTickets();
         closedTicketsStayClosed();
-        wrongNodesAreRefused();
         CHECK.end("TicketsTest");
-    }
-
-    private static void dueTicket(Alarmgrove x, int number, int state, int size, int target) {
-        CHECK.due("ticketState(" + number + ")", x.ticketState(number), state);
-        CHECK.due("ticketSize(" + number + ")", x.ticketSize(number), size);
-        CHECK.due("mergedInto(" + number + ")", x.mergedInto(number), target);
     }
 
     private static void numbersWithoutTicket() {
         Alarmgrove x = new Alarmgrove();
         x.raise(3);
         for (int number : new int[] {-1, 0, 2, 299, 300, 301, 302, Integer.MIN_VALUE, Integer.MAX_VALUE}) {
-            dueTicket(x, number, Alarmgrove.UNUSED, 0, Alarmgrove.NONE);
+            EXPECT.ticket(x, number, Alarmgrove.UNUSED, 0, Alarmgrove.NONE);
         }
-        dueTicket(x, 1, Alarmgrove.OPEN, 1, Alarmgrove.NONE);
+        EXPECT.ticket(x, 1, Alarmgrove.OPEN, 1, Alarmgrove.NONE);
     }
 
     private static void relatedNodesShareATicket() {
@@ -47,8 +40,8 @@ public final class TicketsTest {
         CHECK.due("ticketOf(3) when cleared", x.ticketOf(3), Alarmgrove.NONE);
         CHECK.due("clear(6)", x.clear(6), 1);
         CHECK.due("raise(6) no more related to 5", x.raise(6), 3);
-        dueTicket(x, 1, Alarmgrove.OPEN, 1, Alarmgrove.NONE);
-        dueTicket(x, 3, Alarmgrove.OPEN, 1, Alarmgrove.NONE);
+        EXPECT.ticket(x, 1, Alarmgrove.OPEN, 1, Alarmgrove.NONE);
+        EXPECT.ticket(x, 3, Alarmgrove.OPEN, 1, Alarmgrove.NONE);
     }
 
     private static void ticketsMerge() {
@@ -65,10 +58,10 @@ public final class TicketsTest {
         CHECK.due("openTickets() before", x.openTickets(), 4);
         CHECK.due("raise(0) unites 1, 2 and 3", x.raise(0), 1);
         CHECK.due("openTickets() after", x.openTickets(), 2);
-        dueTicket(x, 1, Alarmgrove.OPEN, 5, Alarmgrove.NONE);
-        dueTicket(x, 2, Alarmgrove.MERGED, 0, 1);
-        dueTicket(x, 3, Alarmgrove.MERGED, 0, 1);
-        dueTicket(x, 4, Alarmgrove.OPEN, 1, Alarmgrove.NONE);
+        EXPECT.ticket(x, 1, Alarmgrove.OPEN, 5, Alarmgrove.NONE);
+        EXPECT.ticket(x, 2, Alarmgrove.MERGED, 0, 1);
+        EXPECT.ticket(x, 3, Alarmgrove.MERGED, 0, 1);
+        EXPECT.ticket(x, 4, Alarmgrove.OPEN, 1, Alarmgrove.NONE);
         CHECK.due("ticketOf(10)", x.ticketOf(10), 1);
         CHECK.due("ticketOf(11)", x.ticketOf(11), 1);
         CHECK.due("ticketOf(13)", x.ticketOf(13), 4);
@@ -87,14 +80,14 @@ public final class TicketsTest {
         x.need(4, 2);
         CHECK.due("raise(4) unites all", x.raise(4), 1);
         CHECK.due("ticketOf(1), not related to 4", x.ticketOf(1), 1);
-        dueTicket(x, 1, Alarmgrove.OPEN, 5, Alarmgrove.NONE);
-        dueTicket(x, 2, Alarmgrove.MERGED, 0, 1);
-        dueTicket(x, 3, Alarmgrove.MERGED, 0, 2);
+        EXPECT.ticket(x, 1, Alarmgrove.OPEN, 5, Alarmgrove.NONE);
+        EXPECT.ticket(x, 2, Alarmgrove.MERGED, 0, 1);
+        EXPECT.ticket(x, 3, Alarmgrove.MERGED, 0, 2);
         for (int node = 0; node < 5; node++) {
             CHECK.due("clear(" + node + ")", x.clear(node), 4 - node);
         }
-        dueTicket(x, 1, Alarmgrove.CLOSED, 0, Alarmgrove.NONE);
-        dueTicket(x, 2, Alarmgrove.MERGED, 0, 1);
+        EXPECT.ticket(x, 1, Alarmgrove.CLOSED, 0, Alarmgrove.NONE);
+        EXPECT.ticket(x, 2, Alarmgrove.MERGED, 0, 1);
     }
 
     private static void nodesAtBothEndsMoveToo() {
@@ -111,9 +104,9 @@ public final class TicketsTest {
         for (int node : new int[] {0, 5, 6, 7, 13}) {
             CHECK.due("ticketOf(" + node + ") then", x.ticketOf(node), 1);
         }
-        dueTicket(x, 1, Alarmgrove.OPEN, 5, Alarmgrove.NONE);
-        dueTicket(x, 2, Alarmgrove.MERGED, 0, 1);
-        dueTicket(x, 3, Alarmgrove.MERGED, 0, 1);
+        EXPECT.ticket(x, 1, Alarmgrove.OPEN, 5, Alarmgrove.NONE);
+        EXPECT.ticket(x, 2, Alarmgrove.MERGED, 0, 1);
+        EXPECT.ticket(x, 3, Alarmgrove.MERGED, 0, 1);
     }
 
     private static void needsDoNotChangeTickets() {
@@ -127,27 +120,20 @@ public final class TicketsTest {
         CHECK.due("raise(7) joins 9, and 8 not with it", x.raise(7), 2);
         x.release(9, 7);
         CHECK.due("ticketOf(7) after release", x.ticketOf(7), 2);
-        dueTicket(x, 2, Alarmgrove.OPEN, 2, Alarmgrove.NONE);
+        EXPECT.ticket(x, 2, Alarmgrove.OPEN, 2, Alarmgrove.NONE);
         x.clear(9);
         CHECK.due("raise(9) unites with 8 alone", x.raise(9), 1);
-        dueTicket(x, 1, Alarmgrove.OPEN, 2, Alarmgrove.NONE);
-        dueTicket(x, 2, Alarmgrove.OPEN, 1, Alarmgrove.NONE);
+        EXPECT.ticket(x, 1, Alarmgrove.OPEN, 2, Alarmgrove.NONE);
+        EXPECT.ticket(x, 2, Alarmgrove.OPEN, 1, Alarmgrove.NONE);
     }
 
     private static void closedTicketsStayClosed() {
         Alarmgrove x = new Alarmgrove();
         x.raise(8);
         x.clear(8);
-        dueTicket(x, 1, Alarmgrove.CLOSED, 0, Alarmgrove.NONE);
+        EXPECT.ticket(x, 1, Alarmgrove.CLOSED, 0, Alarmgrove.NONE);
         CHECK.due("raise(8) again", x.raise(8), 2);
-        dueTicket(x, 1, Alarmgrove.CLOSED, 0, Alarmgrove.NONE);
+        EXPECT.ticket(x, 1, Alarmgrove.CLOSED, 0, Alarmgrove.NONE);
         CHECK.due("openTickets()", x.openTickets(), 1);
-    }
-
-    private static void wrongNodesAreRefused() {
-        Alarmgrove x = new Alarmgrove();
-        for (int wrong : new int[] {-1, 14, Integer.MIN_VALUE, Integer.MAX_VALUE}) {
-            CHECK.dueThrow("ticketOf(" + wrong + ")", NO_NODE, () -> x.ticketOf(wrong));
-        }
     }
 }
