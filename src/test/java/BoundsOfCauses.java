@@ -72,6 +72,11 @@ final class BoundsOfCauses {
         Alarmgrove x = Grove.with(new int[][] {{5, 1}, {6, 1}, {7, 1}}, 5, 6);
         expect.best("1 would explain both, but is not plausible", x, 5, 6);
         expect.greedy("1 would explain both, but is not plausible", x, 5, 6);
+        x.raise(3);
+        x.raise(9);
+        expect.best("1 is not plausible beside other causes either", x, 3, 5, 6, 9);
+        x.clear(3);
+        x.clear(9);
         x.raise(7);
         expect.best("1 is plausible", x, 1);
         expect.greedy("1 is plausible", x, 1);
