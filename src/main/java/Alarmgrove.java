@@ -124,7 +124,7 @@ public final class Alarmgrove {
         return (graph.below(node) & raised) != 0 ? SUPPRESSED : SHOWN;
     }
 
-    // ---- events
+    // ---- events: each time an alarm was raised or cleared
 
     public int events() {
         return log.count();

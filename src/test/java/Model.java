@@ -241,6 +241,9 @@ final class Model {
             knownBest = new ArrayList<>();
             List<Integer> best = null;
             for (int bits = 0; bits < 1 << NODES; bits++) {
+                if (best != null && Integer.bitCount(bits) > best.size()) {
+                    continue;
+                }
                 List<Integer> set = new ArrayList<>();
                 for (int node = 0; node < NODES; node++) {
                     if ((bits >> node) % 2 == 1) {

@@ -45,7 +45,7 @@ public final class SentencesTest {
             if (heading.matches()) {
                 promise = "Promise " + heading.group(1) + ": ";
             }
-            // The face stands between the fences; FaceTest looks at it.
+            // FaceTest looks at the face between the fences, and at what stands ahead of which calls.
             boolean isEnd = line.equals("```") && !isPromised || line.startsWith("## Terms");
             isPromised = isEnd || isPromised && !line.startsWith("```") && !line.startsWith("## Not promised");
             if (isPromised && !line.startsWith("#") && !line.isEmpty()) {
